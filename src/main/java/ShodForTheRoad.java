@@ -8,6 +8,7 @@ public final class ShodForTheRoad {
     private static final int LAST_DAY = 999;
     private static final int MOST_DAYS = 60;
     private static final int FEW_DAYS = 30;
+    private static final int MOST_TRUE_DAYS = 99;
     private static final int REST_DAYS = 5;
     private static final int LOT_DAYS = 10;
     private static final int MOST_LOTS = 20;
@@ -250,14 +251,12 @@ public final class ShodForTheRoad {
     }
 
     public int arrived() {
-        thought.becomes(now);
-        for (int day = 0; day <= MOST_DAYS; day++) {
-            if (Integer.bitCount(thought.arrivedBits()) == thought.riderCount) {
-                return day;
-            }
-            thought.dayPasses();
+        long daysOfAll = -1L >>> (Long.SIZE - TOO_LATE);
+        for (int i = 0; i < now.riderCount; i++) {
+            thinkOf(i);
+            daysOfAll &= mindDaysWhereHeSays();
         }
-        return NONE;
+        return dayOrNone(Long.numberOfTrailingZeros(daysOfAll));
     }
 
     public int shoe(int rider, int place, int what) {
@@ -399,7 +398,7 @@ public final class ShodForTheRoad {
             return refuse(NOBODY);
         }
         thinkOf(rider);
-        for (int day = 0; day <= MOST_WORN; day++) {
+        for (int day = 0; day <= MOST_TRUE_DAYS; day++) {
             if (mind.shoes == 0) {
                 return day;
             }
@@ -540,17 +539,15 @@ public final class ShodForTheRoad {
         }
         int seed = z;
         int sum = 0;
-        for (int i = 0; i < n * now.riderCount; i++) {
-            thinkOf(i % now.riderCount);
-            seed = nextSeed(seed);
-            mind.at = drawn(seed, PLACES);
-            seed = nextSeed(seed);
-            mind.shoes = drawn(seed, MOST_SHOES + 1);
-            mind.rideDays(now.net, LOT_DAYS);
-            if (what == 0) {
-                sum += mind.stepsToGo(now.net);
-            } else if (mind.isWhereHeSays()) {
-                sum++;
+        for (int lot = 0; lot < n; lot++) {
+            for (int i = 0; i < now.riderCount; i++) {
+                thinkOf(i);
+                seed = nextSeed(seed);
+                mind.at = drawn(seed, PLACES);
+                seed = nextSeed(seed);
+                mind.shoes = drawn(seed, MOST_SHOES + 1);
+                mind.rideDays(now.net, LOT_DAYS);
+                sum += what == 0 ? mind.stepsToGo(now.net) : mind.isWhereHeSays() ? 1 : 0;
             }
         }
         return sum;
@@ -614,7 +611,7 @@ public final class ShodForTheRoad {
     }
 
     private static boolean isPlace(int place) {
-        return isBelow(place, PLACES);
+        return place >= 0 && place < PLACES;
     }
 
     private static int dayOrNone(int day) {
@@ -637,6 +634,18 @@ public final class ShodForTheRoad {
         thoughtRoads.change(a, b);
         thinkOf(rider);
         return mind.daysUntilAt(thoughtRoads, place);
+    }
+
+    /** A bit for each of the days 0 to 60 on which he is at what he says. */
+    private long mindDaysWhereHeSays() {
+        long bits = 0;
+        for (int day = 0; day <= MOST_DAYS; day++) {
+            if (mind.isWhereHeSays()) {
+                bits |= 1L << day;
+            }
+            mind.rideDay(now.net);
+        }
+        return bits;
     }
 
     private void noteGuests(int n) {
@@ -801,7 +810,10 @@ public final class ShodForTheRoad {
         }
 
         int stepsBetween(int place, int other) {
-            return isPlace(place) && isPlace(other) ? stepTable[place * PLACES + other] : NO_WAY;
+            if (place < 0 || place >= PLACES || other < 0 || other >= PLACES) {
+                return NO_WAY;
+            }
+            return stepTable[place * PLACES + other];
         }
 
         void change(int place, int other) {
@@ -840,7 +852,7 @@ public final class ShodForTheRoad {
             return bits;
         }
 
-        // No way has 7 steps or more than 7, so NO_WAY never looks shorter than a way.
+        // The longest way has 7 steps, so what goes over a missing road (9 or more) never shortens one.
         private void reckonSteps() {
             for (int a = 0; a < PLACES; a++) {
                 for (int b = 0; b < PLACES; b++) {
@@ -969,7 +981,7 @@ public final class ShodForTheRoad {
         }
 
         boolean hasRider(int rider) {
-            return isBelow(rider, riderCount) && rider < MOST_RIDERS;
+            return rider >= 0 && rider < riderCount && rider < MOST_RIDERS;
         }
 
         boolean changeRoad(int place, int other) {
@@ -1023,17 +1035,13 @@ public final class ShodForTheRoad {
             if (n < 1 || n > MOST_DAYS || day + n > LAST_DAY) {
                 return false;
             }
-            for (int i = 0; i < n; i++) {
-                dayPasses();
+            day += n;
+            for (int i = 0; i < riderCount; i++) {
+                for (int gone = 0; gone < n; gone++) {
+                    riders[i].rideDay(net);
+                }
             }
             return true;
-        }
-
-        void dayPasses() {
-            day++;
-            for (int i = 0; i < riderCount; i++) {
-                riders[i].rideDay(net);
-            }
         }
 
         int arrivedBits() {
@@ -1174,15 +1182,15 @@ public final class ShodForTheRoad {
         }
 
         private boolean tellStatement(County county, int start) {
-            int one = digitAt(start + 1);
-            int two = digitAt(start + 2);
+            int former = digitAt(start + 1);
+            int latter = digitAt(start + 2);
             switch (signAt(start)) {
-                case 'r': return county.changeRoad(one, two);
+                case 'r': return county.changeRoad(former, latter);
                 case 'h': return tellRider(county, start);
-                case 's': return county.shoeAnew(one);
-                case 'w': return county.setGoal(one, two);
-                case 'a': return county.setAt(one, two);
-                case 'd': return county.passDays(10 * one + two);
+                case 's': return county.shoeAnew(former);
+                case 'w': return county.setGoal(former, latter);
+                case 'a': return county.setAt(former, latter);
+                case 'd': return county.passDays(10 * former + latter);
                 default: return false;
             }
         }
