@@ -37,6 +37,7 @@ public final class ShodForTheRoad {
     private static final int ROOM = -6;
     private static final int REFUSAL_KINDS = 6;
     private static final int FIRST_REFUSAL_COUNT = 11;
+    private static final int ALL_BUT_SIGN = 0x7fffffff;
     private static final long LONG_REFUSAL = 4000000000000000000L;
     private static final int FAULT_OF_LETTER = -1000;
     private static final int FAULT_OF_STATEMENT = -2000;
@@ -251,12 +252,17 @@ public final class ShodForTheRoad {
     }
 
     public int arrived() {
-        long daysOfAll = -1L >>> (Long.SIZE - TOO_LATE);
+        long daysOfAll = -1L;
         for (int i = 0; i < now.riderCount; i++) {
             thinkOf(i);
             daysOfAll &= mindDaysWhereHeSays();
         }
-        return dayOrNone(Long.numberOfTrailingZeros(daysOfAll));
+        for (int day = 0; day <= MOST_DAYS; day++) {
+            if ((daysOfAll >> day & 1) == 1) {
+                return day;
+            }
+        }
+        return NONE;
     }
 
     public int shoe(int rider, int place, int what) {
@@ -547,7 +553,11 @@ public final class ShodForTheRoad {
                 seed = nextSeed(seed);
                 mind.shoes = drawn(seed, MOST_SHOES + 1);
                 mind.rideDays(now.net, LOT_DAYS);
-                sum += what == 0 ? mind.stepsToGo(now.net) : mind.isWhereHeSays() ? 1 : 0;
+                if (what == 0) {
+                    sum += mind.stepsToGo(now.net);
+                } else if (mind.isWhereHeSays()) {
+                    sum++;
+                }
             }
         }
         return sum;
@@ -752,7 +762,7 @@ public final class ShodForTheRoad {
     }
 
     private static int drawn(int seed, int bound) {
-        return bound > 0 ? (seed & Integer.MAX_VALUE) / 256 % bound : 0;
+        return bound > 0 ? (seed & ALL_BUT_SIGN) / 256 % bound : 0;
     }
 
     private static int shoesOfKind(int kind) {
