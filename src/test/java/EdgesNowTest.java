@@ -109,6 +109,9 @@ public final class EdgesNowTest {
         ShodForTheRoad none = Tell.anew("hm0010;");
         C.due("6 four shoes for what he says", none.pulls(0, 0), 36);
         C.due("6 the least", none.pulls(0, 1), 0);
+        ShodForTheRoad line = Tell.anew(LONG_LINE + "hb0700;");
+        C.due("6 by the longest way and none", line.pulls(0, 0), 7);
+        C.due("6 by none and the longest way", line.pulls(0, 7), 21);
         ShodForTheRoad same = Tell.anew("hb0777;");
         C.due("6 both the same place", same.pulls(0, 7), 0);
     }
@@ -322,6 +325,12 @@ public final class EdgesNowTest {
         C.due("24 of all roads the least", Tell.allRoads().busiest(), 0);
         C.due("24 of several the least", Tell.anew("r67;r45;").busiest(), 4);
         C.due("24 the last", Tell.anew("r01;r07;r27;r37;").busiest(), 7);
+        for (int place = 0; place < 8; place++) {
+            ShodForTheRoad x = new ShodForTheRoad();
+            x.roads(place, (place + 1) % 8);
+            x.roads(place, (place + 5) % 8);
+            C.due("24 two roads at " + place, x.busiest(), place);
+        }
     }
 
     private static void nearAtItsEnds() {
@@ -336,6 +345,7 @@ public final class EdgesNowTest {
     private static void apartAtItsEnds() {
         C.due("26 of no roads", new ShodForTheRoad().apart(0), 0);
         C.due("26 the most there can be", Tell.anew(LONG_LINE).apart(0), 7);
+        C.due("26 of the last two alone", Tell.anew("r67;").apart(0), 1);
         C.due("26 all near", Tell.allRoads().apart(0), 1);
         C.due("26 the longer of two parts", Tell.anew("r01;r23;r34;r45;").apart(0), 3);
         C.due("26 a ring", Tell.anew(LONG_LINE + "r07;").apart(0), 4);

@@ -11,6 +11,8 @@ public final class EdgesThoughtTest {
     public static void main(String[] args) {
         thoughtPassesTheLastDay();
         thoughtChangesNothing();
+        thoughtLeavesNothingBehind();
+        aFaultIsNotThoughtOf();
         thenAtItsLimits();
         thenAtTheMostWorn();
         comesAtOnceLastOrNever();
@@ -23,6 +25,7 @@ public final class EdgesThoughtTest {
         shoeByWhatIsWorn();
         wishAtItsEnds();
         wishNotSooner();
+        wishOfSeveral();
         roadAtItsEnds();
         roadNotSooner();
         roadOfSeveral();
@@ -47,6 +50,7 @@ public final class EdgesThoughtTest {
         lotsOfOneAndTwenty();
         lotsOfAnySeed();
         lotsOfShoes();
+        lotsOfTenDays();
         lotsOfNobody();
         C.end();
     }
@@ -56,8 +60,8 @@ public final class EdgesThoughtTest {
         List<Long> said = new ArrayList<>();
         for (int rider = 0; rider < x.count(0); rider += 5) {
             long[] one = {x.riderThen(rider, 60, 0), x.riderThen(rider, 60, 1), x.riderThen(rider, 1, 0),
-                x.rests(rider), x.truly(rider), x.meet(rider, 1, 0), x.meet(rider, 1, 1), x.two(rider, 1, 30),
-                x.whatWanted(rider, 0), x.whatWanted(rider, 1)};
+                x.rests(rider), x.truly(rider), x.meet(rider, 1, 0), x.meet(rider, 1, 1), x.two(rider, 1, 3),
+                x.two(rider, 1, 30), x.whatWanted(rider, 0), x.whatWanted(rider, 1)};
             add(said, one);
             for (int place = 0; place < 8; place++) {
                 long[] there = {x.comes(rider, place), x.shoe(rider, place, 0), x.shoe(rider, place, 1),
@@ -95,6 +99,42 @@ public final class EdgesThoughtTest {
         String seen = Seen.of(x);
         thoughts(x);
         C.holds("13 to 38 change nothing", Seen.of(x).equals(seen));
+    }
+
+    private static void thoughtLeavesNothingBehind() {
+        ShodForTheRoad x = new ShodForTheRoad();
+        x.image();
+        Tell.to(x, LONG_LINE + "hr0107;hr0107;");
+        C.due("14 one who is thought of", x.comes(1, 6), 1);
+        C.due("23 two", x.inn(30, 1), 2);
+        x.on();
+        C.due("18 nobody is left", x.arrived(), 0);
+        C.due("23 nor anywhere", x.inn(30, 1), 0);
+        C.due("29 nor has steps to go", x.total(60), 0);
+        C.due("38 nor by lot", x.lots(20, 1, 0), 0);
+    }
+
+    private static void aFaultIsNotThoughtOf() {
+        String three = LONG_LINE + "hr0503;hp4261;hm9777;";
+        ShodForTheRoad x = Tell.anew(three);
+        ShodForTheRoad y = Tell.anew(three);
+        C.due("3 a fault", Tell.to(x, "r01;r34;r56;r07;hr0000;w07;a00;d60;r00;"), -2035);
+        Tell.row(x, 3, 4, 4, 3);
+        Tell.row(y, 3, 4, 4, 3);
+        C.holds("13 to 38 as if it had not been told", thoughts(x).equals(thoughts(y)));
+        for (int place = 0; place < 8; place++) {
+            C.due("6 nor does it pull", x.pulls(0, place), y.pulls(0, place));
+        }
+        for (int what = 0; what <= 3; what++) {
+            C.due("26 nor part places", x.apart(what), y.apart(what));
+        }
+        C.due("33 nor is it in the mean", 10 * x.mean(0) + x.mean(1), 21);
+        Tell.row(x, 3, 1, 7, 0);
+        C.due("36 nor is a fourth there", x.judge(), 3);
+        x.stands(0, 7);
+        x.roads(0, 1);
+        C.due("14 what calls change is thought of", x.comes(0, 5), 2);
+        C.due("14 what calls change is thought of", x.comes(0, 0), -9);
     }
 
     private static void thenAtItsLimits() {
@@ -139,7 +179,8 @@ public final class EdgesThoughtTest {
     }
 
     private static void comesAtOnceLastOrNever() {
-        // Iron is gone behind 32 days at most or never, so nobody comes as late as 60; 30 is as late as a line allows.
+        // Behind 24 days he has one shoe left or keeps what he has: then he goes where he says, at most 7 steps, or never.
+        // So nobody comes later than 30, and no answer can tell a limit of 60 from one of 30.
         ShodForTheRoad x = slowest();
         C.due("14 at once", x.comes(0, 0), 0);
         C.due("14 at the first step", x.comes(0, 1), 24);
@@ -267,6 +308,13 @@ public final class EdgesThoughtTest {
         C.due("20 then not sooner", x.wish(0, 0), -9);
     }
 
+    private static void wishOfSeveral() {
+        // Two and two he stays; with no way to what he wants only what he says pulls: 0 does as well as 7.
+        ShodForTheRoad x = Tell.anew("r71;r12;hp9271;");
+        C.due("20 not before a shoe is gone", x.comes(0, 7), 8);
+        C.due("20 of several the least, though there is no way to it", x.wish(0, 7), 0);
+    }
+
     private static void roadAtItsEnds() {
         C.due("21 to the last place from the first", Tell.anew("hm0070;").road(0, 7), 7);
         C.due("21 the first two", Tell.anew("hm0001;").road(0, 0), 1);
@@ -286,6 +334,9 @@ public final class EdgesThoughtTest {
         C.due("21 he comes as soon as can be", x.road(0, 1), -9);
         C.due("21 sooner", x.road(0, 2), 2);
         C.due("21 nor to where he does not go", x.road(0, 7), -9);
+        // Without 0-1 he would go by 2 at once; but that is a road less, not one more.
+        ShodForTheRoad less = Tell.anew("r71;r10;r72;r20;hm0707;");
+        C.due("21 between places that have a road none is made or missed", less.road(0, 2), -9);
     }
 
     private static void roadOfSeveral() {
@@ -323,6 +374,7 @@ public final class EdgesThoughtTest {
         C.due("23 with day 2 itself", x.inn(2, 0), 2);
         C.due("23 with day 2 itself", x.inn(2, 1), 2);
         C.due("23 thirty", x.inn(30, 1), 2);
+        C.due("23 on day 0 alone, asked again", x.inn(0, 1), 1);
         C.due("23 below", x.inn(-1, 0), -4);
         C.due("23 above", x.inn(31, 0), -6);
         ShodForTheRoad slow = slowest();
@@ -611,6 +663,29 @@ public final class EdgesThoughtTest {
             }
             C.due("38 by shoes of seed " + seed, x.lots(20, seed, 1), there);
             C.due("38 steps of seed " + seed, x.lots(20, seed, 0), 20 - there);
+        }
+    }
+
+    private static int lotsOfFewerShoes(int than, int seed) {
+        Draws draws = new Draws(seed);
+        int many = 0;
+        for (int i = 0; i < 20; i++) {
+            draws.below(8);
+            many += draws.below(5) < than ? 1 : 0;
+        }
+        return many;
+    }
+
+    private static void lotsOfTenDays() {
+        // He loses a shoe each eighth day. Of three the second goes on day 10 or 11, and he goes to 7 only then.
+        ShodForTheRoad x = Tell.allRoads();
+        Tell.to(x, "hp9670;d05;");
+        for (int seed = 0; seed < 5; seed++) {
+            C.due("38 day 11 is not lived, seed " + seed, x.lots(20, seed, 1), lotsOfFewerShoes(3, seed));
+        }
+        x.days(1);
+        for (int seed = 0; seed < 5; seed++) {
+            C.due("38 day 10 is lived, seed " + seed, x.lots(20, seed, 1), lotsOfFewerShoes(4, seed));
         }
     }
 

@@ -63,16 +63,9 @@ public final class PromisesTest {
         C.end();
     }
 
-    private static int tell(ShodForTheRoad x, String text) {
-        for (int i = 0; i < text.length(); i++) {
-            x.letter(text.charAt(i));
-        }
-        return x.county();
-    }
-
     private static ShodForTheRoad told(String text) {
         ShodForTheRoad x = new ShodForTheRoad();
-        C.holds("county of " + text, tell(x, text) > 0);
+        C.holds("county of " + text, Tell.to(x, text) > 0);
         return x;
     }
 
@@ -112,38 +105,38 @@ public final class PromisesTest {
 
     private static void county() {
         ShodForTheRoad x = new ShodForTheRoad();
-        C.due("3 line", tell(x, LINE), 8);
+        C.due("3 line", Tell.to(x, LINE), 8);
         C.due("3 letters gone", x.count(7), 0);
         C.due("3 roads", x.count(2), 5);
         C.due("3 riders", x.count(0), 3);
-        C.due("3 more comes on top", tell(x, "w03;a04;s0;r01;r10;d01;"), 6);
+        C.due("3 more comes on top", Tell.to(x, "w03;a04;s0;r01;r10;d01;"), 6);
         C.due("3 wants", x.rider(0, 2), 3);
         C.due("3 at, a day on", x.rider(0, 4), 3);
         C.due("3 shoes", x.rider(0, 5), 3);
         C.due("3 a road told twice is as before", x.count(2), 5);
         C.due("3 day", x.count(1), 1);
-        C.due("3 a road told again is none", tell(x, "r10;"), 1);
+        C.due("3 a road told again is none", Tell.to(x, "r10;"), 1);
         C.due("3 roads less one", x.count(2), 4);
         C.due("3 steps", x.steps(0, 1), 9);
-        C.due("3 a day for one told behind it", tell(x, "d02;hr0000;"), 2);
+        C.due("3 a day for one told behind it", Tell.to(x, "d02;hr0000;"), 2);
         C.due("3 he has not worn", x.rider(3, 6), 0);
         C.due("3 but others have", x.rider(2, 6), 3);
-        C.due("3 shod anew in the text", tell(x, "s2;d60;d60;s1;"), 4);
+        C.due("3 shod anew in the text", Tell.to(x, "s2;d60;d60;s1;"), 4);
         C.due("3 worn at most", x.rider(2, 6), 99);
         C.due("3 worn of one shod", x.rider(1, 6), 0);
         String full = "r01;".repeat(24);
-        C.due("3 of 96 letters", tell(x, full), 24);
+        C.due("3 of 96 letters", Tell.to(x, full), 24);
     }
 
     private static void letterFault(String text, int place) {
         ShodForTheRoad x = line();
-        C.due("3 '" + text + "'", tell(x, text), -1000 - place);
+        C.due("3 '" + text + "'", Tell.to(x, text), -1000 - place);
         nothingCame(x, text);
     }
 
     private static void statementFault(String text, int place) {
         ShodForTheRoad x = line();
-        C.due("3 '" + text + "'", tell(x, text), -2000 - place);
+        C.due("3 '" + text + "'", Tell.to(x, text), -2000 - place);
         nothingCame(x, text);
     }
 
@@ -217,11 +210,11 @@ public final class PromisesTest {
         statementFault("hr0000;".repeat(4), 21);
         statementFault("r08;r00;", 0);
         ShodForTheRoad x = line();
-        C.due("3 to the last day", tell(x, "d60;".repeat(16) + "d39;"), 17);
+        C.due("3 to the last day", Tell.to(x, "d60;".repeat(16) + "d39;"), 17);
         C.due("3 day", x.count(1), 999);
-        C.due("3 behind the last day", tell(x, "r01;d01;"), -2004);
-        C.due("3 six riders", tell(x, "hr0000;hb1111;hu2222;"), 3);
-        C.due("3 a seventh", tell(x, "hr0000;"), -2000);
+        C.due("3 behind the last day", Tell.to(x, "r01;d01;"), -2004);
+        C.due("3 six riders", Tell.to(x, "hr0000;hb1111;hu2222;"), 3);
+        C.due("3 a seventh", Tell.to(x, "hr0000;"), -2000);
     }
 
     private static void rider() {
@@ -681,7 +674,7 @@ public final class PromisesTest {
         C.due("31 two(3, 0, 0)", x.two(3, 0, 0), -1);
         C.due("31 two(0, 1, -1)", x.two(0, 1, -1), -4);
         C.due("31 two(0, 1, 31)", x.two(0, 1, 31), -6);
-        tell(x, "hr0503;");
+        Tell.to(x, "hr0503;");
         x.turn(3, 3, 0);
         C.due("31 both", x.two(0, 3, 3), 11);
     }
@@ -724,7 +717,7 @@ public final class PromisesTest {
         C.due("33 mean(1)", x.mean(1), 1);
         x.days(1);
         C.due("33 5 by 3", 10 * x.mean(0) + x.mean(1), 53);
-        tell(x, "hr0000;hu0000;hm0000;");
+        Tell.to(x, "hr0000;hu0000;hm0000;");
         C.due("33 12 by 6", 10 * x.mean(0) + x.mean(1), 21);
         C.due("33 mean(2)", x.mean(2), LONG_2);
         C.due("33 mean(-1)", x.mean(-1), LONG_2);
@@ -735,28 +728,21 @@ public final class PromisesTest {
         C.due("33 of nobody", 10 * nobody.mean(0) + nobody.mean(1), 1);
     }
 
-    private static void rowOf(ShodForTheRoad x, int... numbers) {
-        x.clear();
-        for (int number : numbers) {
-            x.row(number);
-        }
-    }
-
     private static void whatWanted() {
         ShodForTheRoad x = line();
         C.due("34 no row", x.whatWanted(0, 0), 255);
         C.due("34 no row", x.whatWanted(0, 1), 63);
-        rowOf(x, 3);
+        Tell.row(x, 3);
         C.due("34 where he is", x.whatWanted(0, 0), 255);
-        rowOf(x, 3, 4, 4, 3, 2, 1, 0);
+        Tell.row(x, 3, 4, 4, 3, 2, 1, 0);
         C.due("34 places", x.whatWanted(0, 0), 48);
         C.due("34 kinds", x.whatWanted(0, 1), 7);
         C.due("34 the row stays", x.count(6), 7);
         C.due("34 not the other", x.whatWanted(1, 0), 0);
-        rowOf(x, 3, 4, 5);
+        Tell.row(x, 3, 4, 5);
         C.due("34 kinds that wear less", x.whatWanted(0, 1), 56);
         C.due("34 no place", x.whatWanted(0, 0), 0);
-        rowOf(x, 99);
+        Tell.row(x, 99);
         C.due("34 no such place", x.whatWanted(0, 0), 0);
         C.due("34 nothing changed", x.rider(0, 0) + x.rider(0, 2), 5);
         C.due("34 whatWanted(3, 2)", x.whatWanted(3, 2), -1);
@@ -778,7 +764,7 @@ public final class PromisesTest {
 
     private static void judged(int due, int... numbers) {
         ShodForTheRoad x = line();
-        rowOf(x, numbers);
+        Tell.row(x, numbers);
         C.due("36 judge of " + java.util.Arrays.toString(numbers), x.judge(), due);
         C.due("36 the row has none", x.count(6), 0);
         C.due("36 judge of none", x.judge(), -9);
@@ -797,7 +783,7 @@ public final class PromisesTest {
     private static void clear() {
         ShodForTheRoad x = new ShodForTheRoad();
         C.due("37 clear()", x.clear(), 0);
-        rowOf(x, 1, 2, 3);
+        Tell.row(x, 1, 2, 3);
         C.due("37 clear()", x.clear(), 3);
         C.due("37 clear()", x.clear(), 0);
         C.due("37 in the row", x.count(6), 0);
@@ -840,7 +826,7 @@ public final class PromisesTest {
         x.wants(0, 1);
         x.stands(1, 7);
         x.turn(2, 0, 0);
-        tell(x, "hr0000;");
+        Tell.to(x, "hr0000;");
         x.row(1);
         x.letter('r');
         x.rider(9, 0);

@@ -166,12 +166,16 @@ public final class RefusalsTest {
         return 0;
     }
 
-    /** With a county two days on, an image of day 0, a row that is so, and letters that would be a road. */
+    /**
+     * With a county two days on, an image of day 0, a row that is so, and letters that would be a road; and a fault
+     * behind a rider more, who must be nobody then.
+     */
     private ShodForTheRoad prepared() {
         ShodForTheRoad x = Tell.anew(ROADS);
         for (int i = 0; i < riders; i++) {
             Tell.to(x, RIDERS[i]);
         }
+        Tell.to(x, "hm0000;r00;");
         x.image();
         x.days(2);
         for (int i = 0; i < riders; i++) {

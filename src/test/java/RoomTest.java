@@ -27,17 +27,10 @@ public final class RoomTest {
         C.end();
     }
 
-    private static void tell(ShodForTheRoad x, String text) {
-        for (int i = 0; i < text.length(); i++) {
-            x.letter(text.charAt(i));
-        }
-        x.county();
-    }
-
     private static long live(ShodForTheRoad x) {
-        tell(x, "r01;r12;r23;r34;r45;r56;hr0503;hp4261;hm9777;hx1234;");
-        tell(x, "d01;s0;w05;a03;");
-        tell(x, "r00;");
+        Tell.to(x, "r01;r12;r23;r34;r45;r56;hr0503;hp4261;hm9777;hx1234;");
+        Tell.to(x, "d01;s0;w05;a03;");
+        Tell.to(x, "r00;");
         long sum = x.rider(0, 7) + x.steps(0, 5) + x.pulls(0, 1) + x.roads(0, 7) + x.shod(1) + x.wants(1, 2)
             + x.stands(1, 1) + x.turn(1, 4, 4) + x.days(1) + x.riderThen(0, 60, 0) + x.comes(0, 7) + x.first(7)
             + x.rests(0) + x.meet(0, 1, 0) + x.arrived() + x.shoe(0, 7, 1) + x.wish(0, 7) + x.road(0, 7) + x.cut(0, 0);
