@@ -13,6 +13,7 @@ public final class EdgesThoughtTest {
         thoughtChangesNothing();
         thoughtLeavesNothingBehind();
         aFaultIsNotThoughtOf();
+        ridersOfAFaultAreNotThoughtOf();
         thenAtItsLimits();
         thenAtTheMostWorn();
         comesAtOnceLastOrNever();
@@ -105,8 +106,8 @@ public final class EdgesThoughtTest {
         ShodForTheRoad x = new ShodForTheRoad();
         x.image();
         Tell.to(x, LONG_LINE + "hr0107;hr0107;");
-        C.due("14 one who is thought of", x.comes(1, 6), 1);
         C.due("23 two", x.inn(30, 1), 2);
+        C.due("14 one who is thought of", x.comes(1, 6), 1);
         x.on();
         C.due("18 nobody is left", x.arrived(), 0);
         C.due("23 nor anywhere", x.inn(30, 1), 0);
@@ -135,6 +136,24 @@ public final class EdgesThoughtTest {
         x.roads(0, 1);
         C.due("14 what calls change is thought of", x.comes(0, 5), 2);
         C.due("14 what calls change is thought of", x.comes(0, 0), -9);
+    }
+
+    private static void ridersOfAFaultAreNotThoughtOf() {
+        ShodForTheRoad x = Tell.anew(LONG_LINE + "hm0070;");
+        C.due("3 a fault", Tell.to(x, "hm0000;hm0077;r00;"), -2014);
+        C.due("15 nobody is there before him", x.first(7), 0);
+        // With four shoes for good he leaves what he says, and stays at what he wants.
+        ShodForTheRoad y = Tell.anew("r01;hr0100;");
+        y.turn(0, 3, 0);
+        C.due("3 a fault", Tell.to(y, "hm0000;hm0077;r00;"), -2014);
+        C.due("18 all of one are there now", y.arrived(), 0);
+        C.due("29 steps of one alone", y.total(1), 1);
+        ShodForTheRoad z = Tell.anew(LONG_LINE + "hr9070;hr9707;");
+        z.turn(0, 3, 0);
+        z.turn(1, 3, 0);
+        C.due("3 a fault", Tell.to(z, "r01;r67;r00;"), -2008);
+        C.due("31 by the roads that there are", z.two(0, 1, 30), 11);
+        C.due("31 on the way", z.two(0, 1, 3), 11);
     }
 
     private static void thenAtItsLimits() {
