@@ -60,6 +60,7 @@ public final class PromisesTest {
         image();
         on();
         count();
+        readmeExample();
         C.end();
     }
 
@@ -873,5 +874,14 @@ public final class PromisesTest {
         for (int what : new int[] {LEAST, -1, 8, 9, 10, 17, GREATEST}) {
             C.due("41 count(" + what + ")", x.count(what), -9);
         }
+    }
+
+    /** What README.md shows; by hand: 2, 3, 3, 2, 1, 0. */
+    private static void readmeExample() {
+        ShodForTheRoad x = new ShodForTheRoad();
+        C.due("README county()", Tell.to(x, "r01;r12;r23;hr0302;"), 4);
+        C.due("README comes(0, 0)", x.comes(0, 0), 5);
+        C.due("README days(3)", x.days(3), 0);
+        C.due("README rider(0, 4)", x.rider(0, 4), 2);
     }
 }

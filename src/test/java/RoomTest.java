@@ -10,11 +10,15 @@ public final class RoomTest {
     public static void main(String[] args) {
         com.sun.management.ThreadMXBean room = (com.sun.management.ThreadMXBean) ManagementFactory.getThreadMXBean();
         long self = Thread.currentThread().getId();
-        ShodForTheRoad x = new ShodForTheRoad();
-        live(x);
+        live(new ShodForTheRoad());
+        // One object for each round: no object is asked more than the 512 calls for which it is promised.
+        ShodForTheRoad[] all = new ShodForTheRoad[ROUNDS];
+        for (int i = 0; i < ROUNDS; i++) {
+            all[i] = new ShodForTheRoad();
+        }
         long before = room.getThreadAllocatedBytes(self);
         for (int i = 0; i < ROUNDS; i++) {
-            live(x);
+            live(all[i]);
         }
         long made = room.getThreadAllocatedBytes(self) - before;
         C.holds(made + " bytes made by calls", made <= SLACK);
